@@ -82,7 +82,7 @@ public final class SurprisedMayor {
             case 2:
                 return present.terms[p];
             case 3:
-                return present.seenInAll(p);
+                return present.seenInAll[p];
             default:
                 return BAD;
         }
@@ -359,7 +359,7 @@ public final class SurprisedMayor {
 
     private int asCool(int p) {
         traced += 100;
-        return asOne(p) - present.seenInAll(p);
+        return asOne(p) - present.seenInAll[p];
     }
 
     private int asChild(int p) {
@@ -383,12 +383,15 @@ public final class SurprisedMayor {
         final int[] place = new int[MOST_PEOPLE];
         final int[] terms = new int[MOST_PEOPLE];
         final int[] seenCells = new int[MOST_PEOPLE * MOST_KINDS];
+        // kept beside the cells, because every SURPRISE asks for it
+        final int[] seenInAll = new int[MOST_PEOPLE];
 
         void reset() {
             mayor = NONE;
             Arrays.fill(place, 0);
             Arrays.fill(terms, 0);
             Arrays.fill(seenCells, 0);
+            Arrays.fill(seenInAll, 0);
         }
 
         void copyFrom(Now other) {
@@ -396,27 +399,22 @@ public final class SurprisedMayor {
             System.arraycopy(other.place, 0, place, 0, MOST_PEOPLE);
             System.arraycopy(other.terms, 0, terms, 0, MOST_PEOPLE);
             System.arraycopy(other.seenCells, 0, seenCells, 0, MOST_PEOPLE * MOST_KINDS);
+            System.arraycopy(other.seenInAll, 0, seenInAll, 0, MOST_PEOPLE);
         }
 
         int seenOf(int p, int kind) {
             return seenCells[p * MOST_KINDS + kind];
         }
 
-        void setSeen(int p, int kind, int times) {
-            seenCells[p * MOST_KINDS + kind] = times;
+        void addSeen(int p, int kind, int times) {
+            seenCells[p * MOST_KINDS + kind] += times;
+            seenInAll[p] += times;
         }
 
         void see(int p, int kind) {
-            setSeen(p, kind, Math.min(MOST_SEEN, seenOf(p, kind) + 1));
-        }
-
-        // KINDS that the town does not have were never SEEN, so adding them is no harm
-        int seenInAll(int p) {
-            int sum = 0;
-            for (int kind = 0; kind < MOST_KINDS; kind++) {
-                sum += seenOf(p, kind);
+            if (seenOf(p, kind) < MOST_SEEN) {
+                addSeen(p, kind, 1);
             }
-            return sum;
         }
 
         void crown(int p) {
@@ -480,8 +478,11 @@ public final class SurprisedMayor {
         }
 
         int shock(Now now, int p, int kind) {
-            int all = Math.max(1, now.seenInAll(p) + kinds);
-            return 100 - 100 * (now.seenOf(p, kind) + 1) / all;
+            int all = now.seenInAll[p] + kinds;
+            if (all <= 0) {
+                return 0;
+            }
+            return 100 - 100 * (now.seenCells[p * MOST_KINDS + kind] + 1) / all;
         }
 
         int greatestShock(Now now) {
@@ -613,7 +614,7 @@ public final class SurprisedMayor {
                 if (!readNumber(0, MOST_SEEN_AT_FIRST)) {
                     return false;
                 }
-                draftNow.setSeen(p, kind, number);
+                draftNow.addSeen(p, kind, number);
             }
             draftTown.people++;
             return true;

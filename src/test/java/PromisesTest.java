@@ -189,7 +189,7 @@ public final class PromisesTest {
     }
 
     private static void townTellsAllAnew() {
-        SurprisedMayor x = Check.town("k4;x4;p0 3 0 0 0 0;p0 0 0 0 0 9;");
+        SurprisedMayor x = Check.town("k4;x4;p0 3 0 0 0 9;p0 0 0 0 0 9;");
         x.happens(0, 3);
         x.keep(0);
         x.keep(1);
@@ -380,6 +380,14 @@ public final class PromisesTest {
             due("11 tells(" + far + ", 0)", x.tells(far, 0), BAD);
             due("11 tells(0, " + far + ")", x.tells(0, far), BAD);
         }
+        // more calls than an object is promised for, but no fewer show the bound
+        SurprisedMayor y = Check.town("k2;x1;p99 0 9 0;");
+        for (int i = 10; i <= 999; i++) {
+            due("11 times", y.tells(0, 0), i);
+        }
+        due("11 999 at most", y.tells(0, 0), 999);
+        y.happens(0, 0);
+        due("11 by an event, too", y.seen(0, 0), 999);
         due("11 tells(2, 0)", x.tells(2, 0), BAD);
         due("11 tells(0, 2)", x.tells(0, 2), BAD);
         due("11 to undo", x.now(3), 2);
@@ -673,6 +681,9 @@ public final class PromisesTest {
         x.notes(0, 1, 0);
         dueNerves(x, 0, 50, 26, 75);
         dueNerves(x, 1, 100, 0, 99);
+        x.notes(1, 0, 0);
+        dueNerves(x, 0, 50, 26, 75);
+        dueNerves(x, 1, 49, 51, 99);
         // by surprise as it is when it is asked: 80, 20 behind this
         x.tells(0, 1);
         dueNerves(x, 0, 60, 21, 80);
@@ -729,6 +740,16 @@ public final class PromisesTest {
         z.notes(0, 1, 1);
         due("22 76 and 77 can be", z.nerves(0, 0), 2);
         due("22 two can be, none parts them", z.test(0), 0);
+        SurprisedMayor t = Check.town("k4;x1;p0 0 8 9 9 9;p0 0 7 8 0 0;p0 0 5 2 1 9;");
+        t.notes(0, 1, 0);
+        t.notes(0, 0, 1);
+        due("22 all jump or none do: the lowest", t.test(0), 0);
+        // surprises 58, 53, 95, 95
+        due("22 59 and 41, 54 and 46", t.test(1), 1);
+        // 72, 86, 91, 53: none of 92 .. 99 would jump by any
+        t.notes(2, 2, 0);
+        due("22 none jumps by any: the lowest", t.test(2), 0);
+        due("22 53 by 54, 48 by 51", Check.town("k2;p0 0 7 8;").test(0), 1);
         for (int far : FAR) {
             due("22 test(" + far + ")", x.test(far), BAD);
         }
