@@ -17,6 +17,16 @@ public final class Check {
         due(what, is ? 1 : 0, 1);
     }
 
+    public void same(String what, String got, String want) {
+        asked++;
+        if (!got.equals(want)) {
+            wrong++;
+            if (wrong <= 40) {
+                System.out.println(what + ": looks like\n" + got + "\n  due is\n" + want);
+            }
+        }
+    }
+
     /** Tells the sum and ends the program. */
     public void end() {
         System.out.println(asked + " answers, " + wrong + " not as due");
