@@ -30,6 +30,7 @@ public final class EdgesOfForesightTest {
         duelThatIsAlwaysWon();
         duelThatIsNeverWon();
         duelOfWhoIsMayor();
+        duelWhereNoneMayPass();
         duelBeginsByTheLowestEvent();
         duelOfTheHighestEvent();
         duelNumbers();
@@ -310,12 +311,27 @@ public final class EdgesOfForesightTest {
         duel(x, 0, 3, 1, 0);
     }
 
+    // each chooses any KIND, PLACE: of those that there are, and he must choose one
+    private static void duelWhereNoneMayPass() {
+        SurprisedMayor x = Check.town("k2;x1;p35 0 0 0;p13 0 0 4;");
+        x.happens(1, 0);
+        // 0 is mayor, and 1 by either kind: by kind 0 he jumps by 86 (0 by 67), by kind 1 by 15 (0 by 34 does not)
+        duel(x, 0, 0, 1, NONE);
+        duel(x, 0, 1, 0, NONE);
+        SurprisedMayor y = Check.town("k2;x1;p49 0 1 2;p0 0 0 1;");
+        // behind kind 0 either kind makes 0 mayor, so that the other one can't help it
+        duel(y, 0, 1, 0, NONE);
+        duel(y, 0, 2, 1, 0);
+    }
+
     // the lowest
     private static void duelBeginsByTheLowestEvent() {
         duel(Check.town("k4;x4;p0 2 0 0 0 0;"), 0, 1, 1, 2);
         // by kind 0: 34; by kind 1: 67
         duel(Check.town("k2;x4;p60 0 1 0;"), 0, 1, 1, 10);
         duel(Check.town("k2;x4;p60 3 1 0;"), 0, 2, 1, 13);
+        // the last of three can be kind 1 at place 0, so that any first one will do
+        duel(Check.town("k2;x4;p60 0 1 0;"), 0, 3, 1, 0);
     }
 
     private static void duelOfTheHighestEvent() {
@@ -676,6 +692,15 @@ public final class EdgesOfForesightTest {
         SurprisedMayor x = Check.town("k2;x1;p0 0 0 0;");
         x.notes(0, 1, 0);
         nerves(x, 0, 49, 51, 99);
-        due("22 the lowest", x.test(0), 0);
+        due("22 by neither one jumps", x.test(0), 0);
+        SurprisedMayor y = Check.town("k2;x1;p0 0 0 2;");
+        y.notes(0, 0, 1);
+        y.notes(0, 1, 0);
+        nerves(y, 0, 50, 26, 75);
+        due("22 by kind 0 he jumps, by kind 1 not", y.test(0), 0);
+        SurprisedMayor z = Check.town("k2;x1;p0 0 2 0;");
+        z.notes(0, 1, 0);
+        nerves(z, 0, 24, 76, 99);
+        due("22 by 25 as little as by 75", z.test(0), 0);
     }
 }
