@@ -13,6 +13,7 @@ public final class EdgesOfEventsTest {
         noMayorAtFirst();
         greatestOfThoseWhoJump();
         lowestOfSeveral();
+        lowestOfSeveralByWhatIsCut();
         onlyThoseWhoAreThere();
         nobodyJumps();
         nobodyIsThere();
@@ -161,10 +162,20 @@ public final class EdgesOfEventsTest {
         SurprisedMayor x = Check.town("k2;p51 0 0 0;p0 0 0 0;p50 0 0 0;p7 0 0 0;");
         due("9 who jumps", x.happens(0, 0), 14);
         due("9 the lowest of them", x.now(0), 1);
-        // 67 is 100 less 100 by 3, cut, for these two, though one has seen more
+        // 67 is 100 less 100 by 3, cut, and 100 less 400 by 12, cut
         SurprisedMayor y = Check.town("k3;p0 0 0 0 0;p0 0 3 3 3;");
         due("9 who jumps", y.happens(0, 0), 3);
         due("9 the lowest, both by 67", y.now(0), 0);
+    }
+
+    private static void lowestOfSeveralByWhatIsCut() {
+        // 900 by 17 and 1000 by 19 are both cut to 52, though the second is less
+        SurprisedMayor x = Check.town("k2;p48 0 8 7;p48 0 9 8;");
+        due("7 surprise of 0", x.surprise(0, 0), 48);
+        due("7 surprise of 1", x.surprise(1, 0), 48);
+        due("14 the lowest of both by 48", x.who(0, 0), 0);
+        due("9 both jump", x.happens(0, 0), 3);
+        due("8 the lowest of both by 48", x.now(0), 0);
     }
 
     private static void onlyThoseWhoAreThere() {

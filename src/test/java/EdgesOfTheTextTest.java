@@ -43,6 +43,7 @@ public final class EdgesOfTheTextTest {
         firstOfSeveralFaults();
         answersOfFaults();
         faultChangesNothing();
+        faultyTextCanBeToldOn();
         faultLeavesNothingForTheNextText();
         readTextIsEmpty();
         readAnewByNoLetters();
@@ -520,6 +521,22 @@ public final class EdgesOfTheTextTest {
             due("4 the same fault, the text is as it was", x.town(), answer);
             CHECK.same("4 nothing changed by town() of '" + text + "'", Look.through(x), Look.through(y));
         }
+    }
+
+    // THE TEXT stays, too: letters that come behind a FAULT are behind those that came ahead of it
+    private static void faultyTextCanBeToldOn() {
+        SurprisedMayor x = new SurprisedMayor();
+        Check.type(x, "k2;x3;p9 2 1");
+        due("4 it ends too early", x.town(), -22);
+        due("2 one more letter", x.type(' '), 13);
+        due("4 it still does", x.town(), -23);
+        Check.type(x, "4;");
+        due("4 now it does not", x.town(), 3);
+        due("26 kinds", x.count(0), 2);
+        due("26 places", x.count(1), 3);
+        due("26 one of the people", x.count(2), 1);
+        due("6 seen", x.seen(0, 1), 4);
+        due("26 the text is empty", x.count(4), 0);
     }
 
     private static void faultLeavesNothingForTheNextText() {

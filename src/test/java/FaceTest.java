@@ -4,9 +4,12 @@ import java.lang.reflect.Method;
 import java.lang.reflect.Modifier;
 import java.nio.file.Files;
 import java.nio.file.Path;
+import java.util.ArrayList;
 import java.util.Arrays;
+import java.util.List;
 import java.util.Set;
 import java.util.TreeSet;
+import java.util.regex.Matcher;
 import java.util.regex.Pattern;
 
 /** The public face, and what LANGUAGE.md rules out where a look at the class can tell. */
@@ -24,7 +27,11 @@ public final class FaceTest {
         members();
         constants();
         insides();
+        fields();
         words();
+        library();
+        lengths();
+        nothingIsMadeByCalls();
         CHECK.end();
     }
 
@@ -89,14 +96,83 @@ public final class FaceTest {
         }
     }
 
+    // a class some twenty fields beside its constants; static fields are constants
+    private static void fields() {
+        List<Class<?>> all = new ArrayList<>(List.of(SurprisedMayor.class));
+        all.addAll(List.of(SurprisedMayor.class.getDeclaredClasses()));
+        for (Class<?> c : all) {
+            int own = 0;
+            for (Field f : c.getDeclaredFields()) {
+                if (Modifier.isStatic(f.getModifiers())) {
+                    CHECK.holds(f + " is a constant", Modifier.isFinal(f.getModifiers()) && f.getType() == int.class);
+                } else {
+                    own++;
+                }
+            }
+            CHECK.holds(c + " has some twenty fields at most", own <= 20);
+        }
+    }
+
+    private static String source() throws Exception {
+        return Files.readString(Path.of("src/main/java/SurprisedMayor.java"));
+    }
+
+    private static String code() throws Exception {
+        return source().replaceAll("(?s)/\\*.*?\\*/", "").replaceAll("//[^\n]*", "");
+    }
+
+    private static Set<String> found(String pattern, String code) {
+        Set<String> all = new TreeSet<>();
+        Matcher m = Pattern.compile(pattern).matcher(code);
+        while (m.find()) {
+            all.add(m.group());
+        }
+        return all;
+    }
+
     private static void words() throws Exception {
-        String source = Files.readString(Path.of("src/main/java/SurprisedMayor.java"));
-        String code = source.replaceAll("(?s)/\\*.*?\\*/", "").replaceAll("//[^\n]*", "");
+        String source = source();
+        String code = code();
         String[] ruledOut = {"\\bthrow\\b", "\\bthrows\\b", "\\btry\\b", "\\bcatch\\b", "\\bsynchronized\\b", "\\bassert\\b",
             "->", "::", "Exact\\b", "\\bprotected\\b", "\\bpackage\\b", "System\\.(?!arraycopy)", "static\\s*\\{"};
         for (String word : ruledOut) {
             CHECK.holds("no " + word, !Pattern.compile(word).matcher(code).find());
         }
         CHECK.holds("signs 10, 32 .. 126 alone", source.chars().allMatch(c -> c == 10 || c >= 32 && c < 127));
+    }
+
+    // only what stands in LANGUAGE.md, and of that no more than is needed
+    private static void library() throws Exception {
+        String code = code();
+        CHECK.same("imports", found("import [^;]*", code).toString(), "[import java.util.Arrays]");
+        Set<String> may = Set.of("Math.max", "Math.min", "Arrays.fill", "System.arraycopy");
+        for (String call : found("\\b(Math|Arrays|System|Integer|Long|String|StringBuilder|List|ArrayList)\\.\\w+", code)) {
+            CHECK.holds(call + " may be used", may.contains(call));
+        }
+        CHECK.same("floats", found("\\b(double|float)\\b", code).toString(), "[]");
+    }
+
+    // methods stay short (some sixty lines)
+    private static void lengths() throws Exception {
+        String[] lines = source().split("\n");
+        int begun = 0;
+        for (int i = 0; i < lines.length; i++) {
+            if (lines[i].matches(" +[^/*]*\\) \\{") && !lines[i].matches(" *(if|for|while|switch|} else).*")) {
+                begun = i;
+            } else if (lines[i].matches("( {4}| {8})}")) {
+                CHECK.holds("the method that begins at line " + (begun + 1) + " is short", i - begun < 60 || begun == 0);
+            }
+        }
+    }
+
+    // objects are made by the fields and by the constructors of the rows alone
+    private static void nothingIsMadeByCalls() throws Exception {
+        for (String line : code().split("\n")) {
+            if (line.matches(".*\\bnew\\b.*")) {
+                boolean field = line.matches(" +(private )?final \\S+ \\w+ = .*;");
+                CHECK.holds("made once:" + line, field || line.trim().equals("rows[i] = new Now();"));
+            }
+        }
+        CHECK.same("copies", found("\\b(clone|copyOf\\w*|values|toCharArray|substring|append)\\(", code()).toString(), "[]");
     }
 }
